@@ -314,7 +314,7 @@ public final class WordArithmetic {
   }
 
   private static long ofLongs(int operation, long a, long b) {
-    // Masked before the cast to int that the rotations need, so that every shift reads b alike.
+    // The rotations want an int, so the lowest 6 bits are taken before b is cast.
     int places = (int) (b & 63L);
     switch (operation) {
       case ADD:
